@@ -42,6 +42,10 @@ public final class AllTest {
         DUE.is("49 full", x.isSound(), true);
         x.viewRemove(1, 2);
         DUE.is("49 changed", x.isSound(), true);
+        x.view(1, 1, 0, 5);
+        DUE.is("49 a view from 0", x.isSound(), true);
+        x.view(1, 1, 5, 5);
+        DUE.is("49 an empty view", x.isSound(), true);
         DUE.is("49 moves no cursor", x.open(0, 0, 1, 7), 22);
         x.isSound();
         DUE.is("49 it stands there", x.place(0, false), 7);
@@ -74,6 +78,18 @@ public final class AllTest {
         d = fold(d, -9, 10, 0, 2, 1, -1, 2, 0, 31 * 31 + 1, 0, 11, 1);
         DUE.is("50 filled", x.digest(), d);
         DUE.is("50 again", x.digest(), d);
+        eachRowWithItsNext();
+    }
+
+    // Each row is like the one after its next, and like none that it is to be held against.
+    private static void eachRowWithItsNext() {
+        Reelrow x = Due.fill(Due.fill(Due.fill(Due.with(0, 10), 1, 20), 2, 10), 3, 20);
+        long d = 7701;
+        for (int row = 0; row <= 3; row++) {
+            int number = row % 2 + 1;
+            d = fold(d, 1, 0, 31 + number, 0, 10 * number, 2, 5, 10 * number, 10 * number, 0, 0, 1, 0, 0);
+        }
+        DUE.is("50 each row with its next", x.digest(), fold(d, 10, 20, 2, 2, 2, -1, -1, 1));
     }
 
     private static void cutsWhateverTheyTell() {

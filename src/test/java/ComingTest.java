@@ -83,6 +83,9 @@ public final class ComingTest {
         DUE.is("4 the other stays", x.text(2, true), "30 -1 40");
         DUE.is("4 none came", x.addAll(0, 1), false);
         DUE.is("4 into empty", x.addAll(1, 0), true);
+        x.add(3, 50, 0);
+        DUE.is("4 one came", x.addAll(0, 3), true);
+        DUE.is("4 behind all", x.end(0, true), 50);
         DUE.outOfBounds("4 row", () -> x.addAll(4, 0));
         DUE.outOfBounds("4 row below", () -> x.addAll(-1, 0));
         DUE.outOfBounds("4 other", () -> x.addAll(0, 4));
@@ -113,6 +116,9 @@ public final class ComingTest {
         DUE.is("5 none came", x.addAllAt(0, 8, 1), 0);
         DUE.is("5 none came, above", x.addAllAt(0, 9, 1), -9);
         DUE.is("5 unchanged", x.count(0, 0), 8);
+        x.add(2, 50, 0);
+        DUE.is("5 one came", x.addAllAt(1, 0, 2), 1);
+        DUE.is("5 it is there", x.text(1, true), "50");
         DUE.outOfBounds("5 row", () -> x.addAllAt(4, 0, 3));
         DUE.outOfBounds("5 other", () -> x.addAllAt(0, 41, -1));
         DUE.badArgument("5 one row", () -> x.addAllAt(0, 0, 0));

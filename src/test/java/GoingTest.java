@@ -36,6 +36,9 @@ public final class GoingTest {
         DUE.is("9 nothing", x.removeThing(2, -1, 1), true);
         DUE.is("9 the first nothing went", x.text(2, true), "10 21 -1");
         DUE.is("9 none", x.removeThing(2, 999, 0), false);
+        Reelrow y = Due.with(0, 10, 20, 15);
+        DUE.is("9 the first cell", y.removeThing(0, 19, 1), true);
+        DUE.is("9 it went", y.text(0, true), "20 15");
         DUE.is("9 unchanged", x.text(2, true), "10 21 -1");
         DUE.is("9 nothing is not number 0", x.removeThing(2, 0, 0), false);
         DUE.outOfBounds("9 row", () -> x.removeThing(4, 1000, 0));

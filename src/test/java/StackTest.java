@@ -61,6 +61,7 @@ public final class StackTest {
         DUE.is("20 the last with the same", x.search(2, 10), 3);
         DUE.is("20 the second cell", x.search(2, 20), 4);
         DUE.is("20 none", x.search(2, 99), -1);
+        DUE.is("20 the first cell", Due.with(3, 10, 20, 30).search(3, 11), 3);
         DUE.is("20 number 0 is not nothing", x.search(2, 0), -1);
         DUE.is("20 of empty", x.search(3, -1), -1);
         DUE.outOfBounds("20 row 1", () -> x.search(1, 1000));
