@@ -883,9 +883,10 @@ public final class Reelrow {
         boolean sift(Cells others, boolean isKept) {
             int kept = 0;
             for (int spot = 0; spot < size; spot++) {
-                boolean isThere = others.firstSame(codes[spot], 0, others.size) != NONE;
+                int code = codeAt(spot);
+                boolean isThere = others.firstSame(code, 0, others.size) != NONE;
                 if (isThere == isKept) {
-                    codes[kept] = codes[spot];
+                    change(kept, code);
                     kept++;
                 }
             }
@@ -904,13 +905,13 @@ public final class Reelrow {
 
         void arrange(boolean isDown) {
             for (int next = 1; next < size; next++) {
-                int code = codes[next];
+                int code = codeAt(next);
                 int spot = next;
-                while (spot > 0 && isAhead(code, codes[spot - 1], isDown)) {
-                    codes[spot] = codes[spot - 1];
+                while (spot > 0 && isAhead(code, codeAt(spot - 1), isDown)) {
+                    change(spot, codeAt(spot - 1));
                     spot--;
                 }
-                codes[spot] = code;
+                change(spot, code);
             }
         }
 
